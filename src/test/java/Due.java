@@ -1,0 +1,66 @@
+/** What the tests share: answers that are due, refusals that are due, and how many were not so. */
+final class Due {
+    private final String test;
+    private int checks = 0;
+    private int wrong = 0;
+
+    Due(String test) {
+        this.test = test;
+    }
+
+    interface Call {
+        void run();
+    }
+
+    interface Question {
+        int ask();
+    }
+
+    void is(String what, long got, long due) {
+        checks++;
+        if (got != due) {
+            fault(what + " answered " + got + ", due is " + due);
+        }
+    }
+
+    void yes(String what, boolean holds) {
+        checks++;
+        if (!holds) {
+            fault(what);
+        }
+    }
+
+    void goes(String what, Call call) {
+        Class<?> thrown = thrownBy(call);
+        yes(what + " threw " + thrown, thrown == null);
+    }
+
+    void refused(String what, Class<? extends RuntimeException> due, Call call) {
+        Class<?> thrown = thrownBy(call);
+        yes(what + " threw " + thrown + ", due is " + due, thrown == due);
+    }
+
+    /** The class itself, so that a kind of IndexOutOfBoundsException of the machine's is told apart. */
+    static Class<?> thrownBy(Call call) {
+        try {
+            call.run();
+            return null;
+        } catch (RuntimeException e) {
+            return e.getClass();
+        }
+    }
+
+    void fault(String text) {
+        wrong++;
+        if (wrong <= 50) {
+            System.out.println(test + ": " + text);
+        }
+    }
+
+    void end() {
+        System.out.println(test + ": " + checks + " checks, " + wrong + " wrong");
+        if (wrong != 0 || checks == 0) {
+            System.exit(1);
+        }
+    }
+}
