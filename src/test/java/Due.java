@@ -3,6 +3,7 @@ final class Due {
     private final String test;
     private int checks = 0;
     private int wrong = 0;
+    private String subject = "";
 
     Due(String test) {
         this.test = test;
@@ -14,6 +15,11 @@ final class Due {
 
     interface Question {
         int ask();
+    }
+
+    /** What the checks from here on are about: it is told with each fault. */
+    void under(String subject) {
+        this.subject = subject;
     }
 
     void is(String what, long got, long due) {
@@ -53,7 +59,7 @@ final class Due {
     void fault(String text) {
         wrong++;
         if (wrong <= 50) {
-            System.out.println(test + ": " + text);
+            System.out.println(test + ": " + subject + text);
         }
     }
 
