@@ -3,7 +3,8 @@ import java.lang.management.ManagementFactory;
 /** How long an object is used, and what its calls make. */
 final class MemoryBoundaries {
     private static final Due DUE = BoundaryTest.DUE;
-    private static final int OBJECTS = 200;
+    // So few that the Java machine does not yet optimise away objects that a call makes and drops.
+    private static final int OBJECTS = 20;
 
     private MemoryBoundaries() {
     }
