@@ -19,11 +19,12 @@ final class BoundaryTest {
 
     public static void main(String[] args) throws IOException {
         document = new Document();
+        // First, while the Java machine does not yet optimise away what a call makes and drops.
+        MemoryBoundaries.all();
         TermsBoundaries.all();
         PlanBoundaries.all();
         PromiseBoundaries.all();
         RefusalBoundaries.all();
-        MemoryBoundaries.all();
         DUE.under("");
         List<String> unnamed = document.unnamed();
         DUE.yes("sentences without a test: " + unnamed, unnamed.isEmpty());

@@ -3,15 +3,15 @@ import java.lang.management.ManagementFactory;
 /** How long an object is used, and what its calls make. */
 final class MemoryBoundaries {
     private static final Due DUE = BoundaryTest.DUE;
-    // So few that the Java machine does not yet optimise away objects that a call makes and drops.
+    // So few that the Java machine does not optimise the calls before they are measured.
     private static final int OBJECTS = 20;
 
     private MemoryBoundaries() {
     }
 
     static void all() {
-        lastCall();
         rowsMadeOnce();
+        lastCall();
     }
 
     private static void lastCall() {
