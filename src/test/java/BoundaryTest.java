@@ -21,6 +21,7 @@ final class BoundaryTest {
         document = new Document();
         // First, while the Java machine does not yet optimise away what a call makes and drops.
         MemoryBoundaries.all();
+        OverviewBoundaries.all();
         TermsBoundaries.all();
         PlanBoundaries.all();
         PromiseBoundaries.all();

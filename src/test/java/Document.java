@@ -3,16 +3,20 @@ import java.nio.file.Files;
 import java.nio.file.Path;
 import java.util.ArrayList;
 import java.util.List;
+import java.util.regex.Matcher;
+import java.util.regex.Pattern;
 
-/** The sentences of ../shared/DOC.md, and which of them tests have named. */
+/** The public face and the sentences of ../shared/DOC.md, and which of them tests have named. */
 final class Document {
     /** The section of a promise is its number. */
     static final int TERMS = 0;
     static final int WHAT_IT_IS = 16;
     private static final Path FILE = Path.of("..", "shared", "DOC.md");
     private static final int SECTIONS = 17;
+    private static final Pattern FACE = Pattern.compile("(?m)^    public (.+);$");
 
     private final List<List<String>> sentences = new ArrayList<>();
+    private final List<String> face = new ArrayList<>();
     private final List<String> named = new ArrayList<>();
     private final boolean found = Files.isReadable(FILE);
 
@@ -38,6 +42,15 @@ final class Document {
                 sentences.get(section).addAll(List.of(body.split("(?<=\\.) (?=[A-Z])")));
             }
         }
+        Matcher line = FACE.matcher(text);
+        while (line.find()) {
+            face.add(line.group(1));
+        }
+    }
+
+    /** The constructor and the methods with their exceptions, as written; none without the document. */
+    List<String> face() {
+        return face;
     }
 
     private static int section(String heading) {
@@ -63,10 +76,10 @@ final class Document {
         return !found;
     }
 
-    /** The sentences of 'Terms' and of the promises that no test has named. */
+    /** The sentences of 'What it is', of 'Terms' and of the promises that no test has named. */
     List<String> unnamed() {
         List<String> unnamed = new ArrayList<>();
-        for (int section = TERMS; found && section < WHAT_IT_IS; section++) {
+        for (int section = TERMS; found && section < SECTIONS; section++) {
             if (sentences.get(section).isEmpty()) {
                 unnamed.add("no section " + section);
             }

@@ -1,13 +1,18 @@
+import java.io.IOException;
 import java.lang.reflect.Constructor;
 import java.lang.reflect.Field;
 import java.lang.reflect.Method;
 import java.lang.reflect.Modifier;
+import java.nio.file.Files;
+import java.nio.file.Path;
 import java.util.Arrays;
 import java.util.TreeSet;
 
 /** The public face: what the document lists, with its exceptions, and nothing else. */
 final class FaceTest {
     private static final Due DUE = new Due("FaceTest");
+
+    private static final Path SOURCE = Path.of("src", "main", "java", "SlitWidths.java");
 
     private static final String[] FACE = {
         "void coil(int,int,int,int,int) IllegalArgumentException",
@@ -26,7 +31,7 @@ final class FaceTest {
         "int shift(int) IndexOutOfBoundsException,UnsupportedOperationException",
     };
 
-    public static void main(String[] args) {
+    public static void main(String[] args) throws IOException {
         Class<?> face = SlitWidths.class;
         DUE.yes("the class is public and final",
                 Modifier.isPublic(face.getModifiers()) && Modifier.isFinal(face.getModifiers()));
@@ -47,7 +52,23 @@ final class FaceTest {
                 && Modifier.isPublic(constructors[0].getModifiers())
                 && constructors[0].getParameterCount() == 0);
         insideIsHidden(face, publicNames);
+        writtenAsInTheDocument();
         DUE.end();
+    }
+
+    /** The names of parameters too, which the compiled class does not tell. */
+    private static void writtenAsInTheDocument() throws IOException {
+        Document document = new Document();
+        String source = Files.readString(SOURCE).replaceAll("\\s+", " ");
+        int promise = 0;
+        for (String line : document.face()) {
+            promise++;
+            DUE.yes("promise " + promise + " is about " + line,
+                    document.names(promise, "`" + line + "`: "));
+            DUE.yes("the source has " + line, source.contains(" public " + line + " {"));
+        }
+        DUE.yes(promise + " lines of the document's face",
+                promise == 0 || promise == FACE.length + 1);
     }
 
     private static void insideIsHidden(Class<?> face, TreeSet<String> publicNames) {
